@@ -332,11 +332,10 @@ public final class LastHome {
         makeDuelReady(first, other);
         int mine = placeOf(first);
         int yours = placeOf(other);
-        if (what == 2) {
-            return duels.bestDeed(mine, yours);
+        if (what == 0) {
+            return duels.isWon(mine, yours) ? 1 : 0;
         }
-        int worth = duels.worth(mine, yours);
-        return what == 0 ? (worth > 0 ? 1 : 0) : Duels.turnsOf(worth);
+        return what == 1 ? duels.turns(mine, yours) : duels.deed(mine, yours);
     }
 
     public int treaty(int first, int other) {
@@ -346,10 +345,10 @@ public final class LastHome {
         makeDuelReady(first, other);
         int mine = placeOf(first);
         int yours = placeOf(other);
-        boolean wins = duels.worth(mine, yours) > 0;
+        boolean winsNow = duels.isWon(mine, yours);
         int most = Math.min(MOST_DAYS_OF_TREATY, Math.min(road.rests[first], road.rests[other]));
         int kept = 0;
-        for (int n = 1; n <= most && (duels.worth(mine - n, yours - n) > 0) == wins; n++) {
+        for (int n = 1; n <= most && duels.isWon(mine - n, yours - n) == winsNow; n++) {
             kept = n;
         }
         return kept;
@@ -405,7 +404,7 @@ public final class LastHome {
             for (int o = 0; fights && o < war.men; o++) {
                 if (war.side[o] != side && war.speed[o] == yours && road.canGo(o)) {
                     makeDuelReady(m, o);
-                    wins[m] += duels.worth(placeOf(m), placeOf(o)) > 0 ? 1 : 0;
+                    wins[m] += duels.isWon(placeOf(m), placeOf(o)) ? 1 : 0;
                 }
             }
         }
@@ -1656,10 +1655,14 @@ public final class LastHome {
         private static final int PLACES = War.FARTHEST + 9 * War.MOST_ORCHARDS + 1;
         // A win in n turns is worth SETTLED - n, a loss in n turns n - SETTLED.
         private static final int SETTLED = 1000;
-        private static final int CANNOT = -2 * SETTLED;
+        private static final int WON_NOW = SETTLED - 1;
+        private static final int LOST_NOW = 1 - SETTLED;
         private final int[] lowestAt = new int[War.FARTHEST + 1];
         private final int[] highestAt = new int[War.FARTHEST + 1];
         private final int[] stepOf = new int[PLACES];
+        private final int[] goneTo = new int[PLACES];
+        private final int[] pressedByFirst = new int[PLACES];
+        private final int[] pressedByOther = new int[PLACES];
         private int[] firstInTurn = null;
         private int[] otherInTurn = null;
         private int firstSpeed = 0;
@@ -1673,6 +1676,7 @@ public final class LastHome {
                 lowestAt[s] = place;
                 for (int r = 0; r <= war.restAt[s] && place < PLACES; r++) {
                     stepOf[place] = s;
+                    goneTo[place] = s == 0 ? 0 : lowestAt[s] - 1;
                     place++;
                 }
                 highestAt[s] = place - 1;
@@ -1698,67 +1702,61 @@ public final class LastHome {
             otherSpeed = other;
             firstFarthest = Math.min(firstFar, PLACES - 1);
             otherFarthest = Math.min(otherFar, PLACES - 1);
+            findPressed(pressedByFirst, first);
+            findPressed(pressedByOther, other);
+            settleAll();
+        }
+
+        private void findPressed(int[] pressed, int speed) {
+            for (int p = 0; p < PLACES; p++) {
+                pressed[p] = highestAt[Math.max(0, stepOf[p] - speed)];
+            }
+        }
+
+        private void settleAll() {
             for (int f = 1; f <= firstFarthest; f++) {
                 for (int o = 1; o <= otherFarthest; o++) {
-                    firstInTurn[f * PLACES + o] = best(f, o, firstSpeed, otherInTurn);
-                    otherInTurn[o * PLACES + f] = best(o, f, otherSpeed, firstInTurn);
+                    firstInTurn[f * PLACES + o] = best(f, o, pressedByFirst[o], otherInTurn);
+                    otherInTurn[o * PLACES + f] = best(o, f, pressedByOther[f], firstInTurn);
                 }
             }
         }
 
-        private int best(int mine, int yours, int speed, int[] replies) {
-            int best = CANNOT;
-            for (int deed = GONE; deed <= PRESSED; deed++) {
-                best = Math.max(best, worthOfDeed(deed, mine, yours, speed, replies));
+        /** Four times the worth and how far the deed is below PRESSED, so that of several the lowest is the best. */
+        private int best(int mine, int yours, int pressed, int[] replies) {
+            int gone = goneTo[mine];
+            int best = 4 * (gone == 0 ? LOST_NOW : answered(replies[yours * PLACES + gone])) + PRESSED - GONE;
+            boolean hasRest = mine - 1 > gone;
+            if (hasRest) {
+                int stayed = answered(replies[yours * PLACES + mine - 1]);
+                int after = pressed == 0 ? WON_NOW : answered(replies[pressed * PLACES + mine - 1]);
+                best = Math.max(best, Math.max(4 * stayed + PRESSED - STAYED, 4 * after));
             }
             return best;
         }
 
-        private int worthOfDeed(int deed, int mine, int yours, int speed, int[] replies) {
-            int step = isPlace(mine) ? stepOf[mine] : 0;
-            if (deed == GONE) {
-                int there = step > 0 ? highestAt[step - 1] : 0;
-                return there == 0 ? 1 - SETTLED : answered(replies, yours, there);
-            }
-            if (mine <= lowestAt[step]) {
-                return CANNOT;
-            }
-            if (deed == STAYED) {
-                return answered(replies, yours, mine - 1);
-            }
-            int pressed = isPlace(yours) ? stepOf[yours] - speed : 0;
-            return pressed <= 0 ? SETTLED - 1 : answered(replies, highestAt[pressed], mine - 1);
+        /** What is it worth to the one, if the other one is in turn then: a turn later, and turned round. */
+        private static int answered(int reply) {
+            int worth = reply >> 2;
+            return worth > 0 ? 1 - worth : -1 - worth;
         }
 
-        private static int answered(int[] replies, int yours, int mine) {
-            int reply = read(replies, yours, mine);
-            return reply > 0 ? 1 - reply : -1 - reply;
+        /** What was settled for the first in turn; 0 where nothing is. */
+        int settled(int mine, int yours) {
+            boolean arePlaces = mine > 0 && mine <= firstFarthest && yours > 0 && yours <= otherFarthest;
+            return firstInTurn != null && arePlaces ? firstInTurn[mine * PLACES + yours] : 0;
         }
 
-        private static boolean isPlace(int place) {
-            return place >= 0 && place < PLACES;
+        boolean isWon(int mine, int yours) {
+            return settled(mine, yours) > 0;
         }
 
-        private static int read(int[] table, int mover, int waiter) {
-            return table != null && isPlace(mover) && isPlace(waiter) ? table[mover * PLACES + waiter] : 0;
+        int turns(int mine, int yours) {
+            return SETTLED - Math.abs(settled(mine, yours) >> 2);
         }
 
-        int worth(int mine, int yours) {
-            return read(firstInTurn, mine, yours);
-        }
-
-        static int turnsOf(int worth) {
-            return SETTLED - Math.abs(worth);
-        }
-
-        int bestDeed(int mine, int yours) {
-            int worth = worth(mine, yours);
-            for (int deed = GONE; deed <= PRESSED; deed++) {
-                if (worthOfDeed(deed, mine, yours, firstSpeed, otherInTurn) == worth) {
-                    return deed;
-                }
-            }
-            return NONE;
+        int deed(int mine, int yours) {
+            return PRESSED - (settled(mine, yours) & 3);
         }
     }
 
@@ -1943,8 +1941,13 @@ public final class LastHome {
         }
 
         private void tallyRow(int n) {
+            int many = 0;
             for (int k = 0; k < BASE; k++) {
-                tallies[k * ANSWERS + howMany(n, k)]++;
+                // The row rises, so those below k stand first.
+                while (many < n && many < LARGEST && row[many] <= k) {
+                    many++;
+                }
+                tallies[k * ANSWERS + many]++;
             }
         }
 

@@ -224,7 +224,10 @@ public final class DeedTest {
         Check.same("forty ACTS", x.count(11), 40);
         Check.same("sixty lines", x.count(10), 60);
         Check.same("UNDO", x.undo(), 39);
-        Check.same("and again", x.evening(), 9999);
+        Check.same("and again", x.march(1, 1), 9999);
+        x.undo();
+        x.undo();
+        Check.same("two, too", x.march(2, 1), 9999);
     }
 
     private static void checkUndo() {

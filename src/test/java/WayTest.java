@@ -5,6 +5,7 @@ public final class WayTest {
 
     public static void main(String[] args) {
         checkDuel();
+        checkLargestDuels();
         checkChampions();
         checkTreaty();
         checkEscorts();
@@ -46,6 +47,27 @@ public final class WayTest {
         LastHome y = Check.war("md1;ms1d2;md3;ok1x1");
         y.stay(0);
         Check.same("the REST is spent", y.duel(0, 1, 1), 1);
+    }
+
+    /** All STEPS and all DAYS of ORCHARDS that there can be, by all SPEEDS. */
+    private static void checkLargestDuels() {
+        String orchards = ";ok20x9;ok19x9;ok12x9;ok8x9;ok5x9;ok1x9";
+        for (int v = 1; v <= 5; v++) {
+            String war = "md20v" + v + ";ms1d20v1;ms1d19v2;ms1d12v3;ms1d8v4;ms1d20v5" + orchards;
+            LastHome x = Check.war(war);
+            Model y = new Model();
+            y.tape = war;
+            y.text(0);
+            for (int o = 1; o <= 5; o++) {
+                for (int what = 0; what < 3; what++) {
+                    Check.same(war + " duel with " + o, x.duel(0, o, what), y.duel(0, o, what));
+                    Check.same(war + " duel of " + o, x.duel(o, 0, what), y.duel(o, 0, what));
+                }
+                Check.same(war + " treaty with " + o, x.treaty(0, o), y.treaty(0, o));
+            }
+            Check.same(war + " victors", x.victors(0), y.victors(0));
+            Check.same(war + " champion", x.champion(1), y.champion(1));
+        }
     }
 
     private static void checkChampions() {
@@ -184,6 +206,7 @@ public final class WayTest {
         Check.same("1+2+3, then 1+3", x.forced(3), 2);
         Check.same("nobody there has a REST", x.forced(1), 3);
         Check.same("0 STEPS", x.forced(4), 0);
+        Check.same("by his own STEPS alone", Check.war("md20;ms1").forced(0), 20);
         Check.same("no MAN", x.forced(5), Check.NONE);
         Check.same("no MAN", x.forced(-1), Check.NONE);
     }
