@@ -249,19 +249,15 @@ public final class LastHome {
         }
         chance = seed;
         for (int d = 0; d < n && !road.isOver(); d++) {
-            marchOneDay();
+            past.keepAct(road, logbook);
+            for (int m = 0; m < war.men && !road.isOver(); m++) {
+                if (!road.isHome(m) && !road.didDeed(m)) {
+                    marchOneMan(m);
+                }
+            }
+            endDay();
         }
         return road.day;
-    }
-
-    private void marchOneDay() {
-        past.keepAct(road, logbook);
-        for (int m = 0; m < war.men && !road.isOver(); m++) {
-            if (!road.isHome(m) && !road.didDeed(m)) {
-                marchOneMan(m);
-            }
-        }
-        endDay();
     }
 
     private void marchOneMan(int man) {
@@ -758,7 +754,7 @@ public final class LastHome {
         /** The first place from there on that is no blank (the length, if all are). */
         int behindBlanks(int from) {
             int i = from;
-            while (i < length && at(i) == BLANK) {
+            while (i >= 0 && i < length && i < MOST && bytes[i] == BLANK) {
                 i++;
             }
             return i;
@@ -1065,28 +1061,16 @@ public final class LastHome {
             }
             int sign = tape.at(at);
             boolean hasCondition = sign == '!' || sign == '(';
-            if (hasCondition) {
-                if (!readCondition(0)) {
-                    return false;
-                }
-            } else {
-                if (!readSum(0)) {
-                    return false;
-                }
-                hasCondition = comparisonOf(tape.at(at)) != 0;
-                if (hasCondition && !readBehindFirstSum()) {
-                    return false;
-                }
+            boolean goesOn = hasCondition ? readCondition(0) : readSum(0);
+            if (goesOn && !hasCondition && comparisonOf(tape.at(at)) != 0) {
+                hasCondition = true;
+                goesOn = readComparison(0) && readMoreUnits(0) && readMoreTruths(0);
             }
-            if (hasCondition && !readAnswer()) {
-                return false;
+            if (goesOn && hasCondition) {
+                goesOn = readAnswer();
             }
             put(Laws.ANSWER);
-            return true;
-        }
-
-        private boolean readBehindFirstSum() {
-            return readComparison(0) && readMoreUnits(0) && readMoreTruths(0);
+            return goesOn;
         }
 
         private boolean readAnswer() {
@@ -1241,7 +1225,7 @@ public final class LastHome {
             if (tape.at(at) != sign) {
                 return false;
             }
-            goOn();
+            at = tape.behindBlanks(at + 1);
             return true;
         }
 
@@ -1285,7 +1269,6 @@ public final class LastHome {
         private final int[] waiting = new int[MOST_WAITING];
         final int[] letters = new int[LETTER_COUNT];
         final int[] through = new int[MOST];
-        private int top = 0;
         int count = 0;
         int held = NONE;
 
@@ -1317,69 +1300,45 @@ public final class LastHome {
                 return 0;
             }
             int[] signs = code[law];
+            int top = 0;
             boolean skips = false;
-            top = 0;
-            for (int i = 0; i < lengths[law] && i < signs.length; i++) {
+            for (int i = 0; i < lengths[law] && i < MOST_CODE; i++) {
                 int sign = signs[i];
                 if (skips) {
                     skips = sign != ANSWER;
-                } else if (sign == ANSWER) {
-                    return pull();
-                } else if (sign == UNLESS) {
-                    skips = pull() == 0;
-                } else {
-                    doSign(sign);
+                } else if (sign > FIRST_LETTER - LETTER_COUNT && top < MOST_WAITING) {
+                    waiting[top] = sign >= 0 ? sign : letters[FIRST_LETTER - sign];
+                    top++;
+                } else if (sign == ANSWER && top >= 1) {
+                    return waiting[top - 1];
+                } else if (sign == UNLESS && top >= 1) {
+                    top--;
+                    skips = waiting[top] == 0;
+                } else if (sign == NOT && top >= 1) {
+                    waiting[top - 1] = waiting[top - 1] == 0 ? 1 : 0;
+                } else if (top >= 2) {
+                    top--;
+                    waiting[top - 1] = joined(sign, waiting[top - 1], waiting[top]);
                 }
             }
             return 0;
         }
 
-        private void doSign(int sign) {
-            if (sign >= 0) {
-                push(sign);
-            } else if (sign == NOT) {
-                push(pull() == 0 ? 1 : 0);
-            } else if (sign > FIRST_LETTER - LETTER_COUNT) {
-                push(letters[FIRST_LETTER - sign]);
-            } else {
-                int right = pull();
-                int left = pull();
-                push(joined(sign, left, right));
-            }
-        }
-
         private static int joined(int sign, int left, int right) {
+            long number = 0;
             switch (sign) {
-                case PLUS: return bounded((long) left + right);
-                case MINUS: return bounded((long) left - right);
-                case TIMES: return bounded((long) left * right);
-                case BY: return right == 0 ? 0 : bounded((long) left / right);
-                case ALIKE: return left == right ? 1 : 0;
-                case BELOW: return left < right ? 1 : 0;
-                case ABOVE: return left > right ? 1 : 0;
-                case AND: return left != 0 && right != 0 ? 1 : 0;
-                case OR: return left != 0 || right != 0 ? 1 : 0;
-                default: return 0;
+                case PLUS: number = left + right; break;
+                case MINUS: number = left - right; break;
+                case TIMES: number = (long) left * right; break;
+                case BY: number = right == 0 ? 0 : left / right; break;
+                case ALIKE: number = left == right ? 1 : 0; break;
+                case BELOW: number = left < right ? 1 : 0; break;
+                case ABOVE: number = left > right ? 1 : 0; break;
+                case AND: number = left != 0 && right != 0 ? 1 : 0; break;
+                case OR: number = left != 0 || right != 0 ? 1 : 0; break;
+                default: break;
             }
-        }
-
-        private static int bounded(long number) {
-            return (int) Math.max(-BOUND, Math.min(BOUND, number));
-        }
-
-        private void push(int number) {
-            if (top >= 0 && top < MOST_WAITING) {
-                waiting[top] = number;
-                top++;
-            }
-        }
-
-        private int pull() {
-            if (top <= 0 || top > MOST_WAITING) {
-                return 0;
-            }
-            top--;
-            return waiting[top];
+            return number > BOUND ? BOUND : number < -BOUND ? -BOUND : (int) number;
         }
     }
 
@@ -1618,7 +1577,7 @@ public final class LastHome {
 
         void undoAct(Road road, Logbook logbook) {
             slot = Math.floorMod(slot - 1, MOST_ACTS);
-            bring(slot, road);
+            road.unpack(steps[slot], rests[slot], deeds[slot], days[slot]);
             logbook.written = written[slot];
             acts--;
         }
@@ -1630,7 +1589,7 @@ public final class LastHome {
         }
 
         void bringImageBack(Road road, Logbook logbook) {
-            bring(IMAGE_SLOT, road);
+            road.unpack(steps[IMAGE_SLOT], rests[IMAGE_SLOT], deeds[IMAGE_SLOT], days[IMAGE_SLOT]);
             logbook.bringImageBack();
             acts = 0;
         }
@@ -1640,10 +1599,6 @@ public final class LastHome {
             rests[into] = road.packedRests();
             deeds[into] = road.deeds;
             days[into] = road.day;
-        }
-
-        private void bring(int from, Road road) {
-            road.unpack(steps[from], rests[from], deeds[from], days[from]);
         }
     }
 
