@@ -1742,7 +1742,7 @@ public final class LastHome {
             int bits = 0;
             for (int o = 0; o < war.men; o++) {
                 boolean isFoe = war.side[o] != war.side[man];
-                if (isFoe && road.canPress(man, o) && road.steps[o] <= war.speed[man]) {
+                if (isFoe && !road.isHome(o) && road.steps[o] <= war.speed[man]) {
                     bits |= 1 << o;
                 }
             }

@@ -143,11 +143,11 @@ public final class WayTest {
         Check.same("what -1", x.escorts(0, -1), Check.NONE);
         x.stay(0);
         Check.same("a deed does not matter", x.escorts(0, 0), 1);
-        LastHome y = Check.war("md3b1;md3;ms1d1b1;ms1d1;ms1d0;o");
+        LastHome y = Check.war("md3b1;md3;md3;ms1d1b1;ms1d1;ms1d0;ms1d2;o");
         Check.law(y, "y:b");
         y.law(0);
-        Check.same("who is HOME does not count", y.escorts(0, 0), 1);
-        Check.same("nor is he PRESSED, nor who has no STEPS", y.escorts(0, 1), 3);
+        Check.same("who is HOME does not count", y.escorts(0, 0), 2);
+        Check.same("nor is he PRESSED; who has no STEPS and is not HOME is", y.escorts(0, 1), 45);
     }
 
     private static void checkLoopholes() {
