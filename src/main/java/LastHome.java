@@ -1741,8 +1741,8 @@ public final class LastHome {
         private int broughtHomeBy(int man) {
             int bits = 0;
             for (int o = 0; o < war.men; o++) {
-                boolean isFoe = war.side[o] != war.side[man];
-                if (isFoe && !road.isHome(o) && road.steps[o] <= war.speed[man]) {
+                boolean canBePressed = war.side[o] != war.side[man] && !road.isHome(o) && road.canGo(o);
+                if (canBePressed && road.steps[o] <= war.speed[man]) {
                     bits |= 1 << o;
                 }
             }

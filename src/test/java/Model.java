@@ -607,7 +607,7 @@ final class Model {
         }
         int m = who.get(i);
         for (int o = 0; o < men.size(); o++) {
-            boolean ends = now.steps[o] <= of(m, 'v');
+            boolean ends = now.steps[o] > 0 && now.steps[o] <= of(m, 'v');
             if (of(o, 's') != of(m, 's') && !home(o) && ends && taken.add(o)) {
                 tryRows(who, i + 1, taken, row * 10 + o, best);
                 taken.remove(o);

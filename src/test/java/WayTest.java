@@ -146,8 +146,14 @@ public final class WayTest {
         LastHome y = Check.war("md3b1;md3;md3;ms1d1b1;ms1d1;ms1d0;ms1d2;o");
         Check.law(y, "y:b");
         y.law(0);
-        Check.same("who is HOME does not count", y.escorts(0, 0), 2);
-        Check.same("nor is he PRESSED; who has no STEPS and is not HOME is", y.escorts(0, 1), 45);
+        Check.same("who is HOME does not count", y.escorts(0, 0), 1);
+        Check.same("nor is he PRESSED, nor who has no STEPS to go", y.escorts(0, 1), 49);
+        LastHome z = Check.war("md3;ms1d0;o");
+        Check.law(z, "y:0");
+        z.law(0);
+        Check.same("nobody who has STEPS to go", z.escorts(0, 0), 0);
+        Check.same("so nobody is PRESSED", z.escorts(0, 1), 9);
+        Check.same("as press has it", z.press(0, 1), Check.NONE);
     }
 
     private static void checkLoopholes() {
