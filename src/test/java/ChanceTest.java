@@ -118,7 +118,7 @@ public final class ChanceTest {
         Check.same("eleven", x.ask(1, 1), 11);
         x.letter(3, 1);
         for (int n = 1; n <= 3; n++) {
-            int[] due = askByFit(x, n);
+            int[] due = askByRows(n, 3, 1);
             Check.same("ask " + n, x.ask(n, 0), due[0]);
             Check.same("ask " + n, x.ask(n, 1), due[1]);
         }
@@ -127,13 +127,17 @@ public final class ChanceTest {
         Check.same("nothing fits", x.ask(3, 1), Check.NONE);
     }
 
-    private static int[] askByFit(LastHome x, int n) {
+    /** All rows of n MEN that rise and FIT one LETTER, and how often each question is answered so or so. */
+    private static int[] askByRows(int n, int bound, int within) {
         int[][] many = new int[21][4];
-        int rows = x.fit(n, Check.NONE);
-        for (int i = 0; i < rows; i++) {
-            int row = x.fit(n, i);
-            for (int k = 0; k <= 20; k++) {
-                many[k][(row % 21 <= k ? 1 : 0) + (n > 1 && row / 21 % 21 <= k ? 1 : 0) + (n > 2 && row / 441 <= k ? 1 : 0)]++;
+        for (int row = 0; row < 21 * 21 * 21; row++) {
+            int[] steps = {row / 441, row / 21 % 21, row % 21};
+            boolean rises = n == 3 ? steps[0] <= steps[1] : steps[0] == 0;
+            rises = rises && (n >= 2 ? steps[1] <= steps[2] : steps[1] == 0);
+            if (rises && below(steps, n, bound) == within) {
+                for (int k = 0; k <= 20; k++) {
+                    many[k][below(steps, n, k)]++;
+                }
             }
         }
         int best = -1;
@@ -146,6 +150,14 @@ public final class ChanceTest {
             }
         }
         return new int[] {best, least};
+    }
+
+    private static int below(int[] steps, int n, int bound) {
+        int some = 0;
+        for (int i = 3 - n; i < 3; i++) {
+            some += steps[i] <= bound ? 1 : 0;
+        }
+        return some;
     }
 
     private static void checkSure() {

@@ -393,6 +393,9 @@ public final class EdgeChanceTest {
         Check.same("-1", x.hurry(0, -1), Check.NONE);
         Check.same("behind 4", x.hurry(1, 4), 4);
         Check.same("behind 5", x.hurry(1, 5), 4);
+        Check.same("MAN 0", Check.war("md5;md5i1;ms1").hurry(0, 5), 0);
+        Check.same("MAN 7", Check.war("md5i1;m;m;m;m;m;ms1;md1").hurry(0, 1), 7);
+        Check.same("MAN 0 of SIDE 1", Check.war("ms1d5;md5").hurry(1, 0), 0);
         Check.same("the second of SIDE 1", Check.war("m;ms1d5i1;ms1d5").hurry(1, 5), 2);
         Check.same("nobody", Check.war("m;ms1d0;ms1d0").hurry(1, 5), Check.NONE);
         Check.same("no SIDE 2", x.hurry(2, 5), Check.NONE);

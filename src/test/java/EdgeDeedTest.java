@@ -19,6 +19,7 @@ public final class EdgeDeedTest {
         fortyActs();
         eachKindIsOneAct();
         undoneWithTheLog();
+        undoneWithTheLongestLog();
         sixtyLines();
         linesOfTheLog();
         marchOfDays();
@@ -444,6 +445,50 @@ public final class EdgeDeedTest {
         }
     }
 
+    /** A seed by which all eight draw the deed, being never ILL. */
+    private static long seedOf(int deed) {
+        for (long seed = 0; seed < 1000000; seed++) {
+            long[] chance = {seed};
+            boolean all = true;
+            for (int m = 0; m < 8 && all; m++) {
+                draw(chance, 10);
+                all = draw(chance, 3) == deed;
+            }
+            if (all) {
+                return seed;
+            }
+        }
+        throw new IllegalStateException("no such seed");
+    }
+
+    /** Forty DAYS on each of which all eight did a deed are UNDONE: the sixty lines ahead of them are told again. */
+    private static void undoneWithTheLongestLog() {
+        LastHome x = endless("md20;md20;md20;md20;ms1d20;ms1d20;ms1d20;ms1d20"
+            + ";ok20x9;ok19x9;ok18x9;ok17x9;ok16x9;ok15x9");
+        long stay = seedOf(1);
+        long go = seedOf(0);
+        int[] told = new int[60];
+        for (int day = 1; day <= 49; day++) {
+            Check.same("the DAY", x.march(1, day % 10 == 0 ? go : stay), day);
+            if (day == 9) {
+                for (int i = 0; i < 60; i++) {
+                    told[i] = x.log(i, 0) * 100 + x.log(i, 1) * 10 + x.log(i, 2);
+                }
+            }
+        }
+        Check.same("nine lines a DAY", x.log(9, 0) * 10 + x.log(18, 0), 33);
+        Check.same("sixty lines", x.count(10), 60);
+        for (int left = 39; left >= 0; left--) {
+            Check.same("UNDONE", x.undo(), left);
+        }
+        Check.same("the DAY", x.count(5), 9);
+        Check.same("sixty lines again", x.count(10), 60);
+        for (int i = 0; i < 60; i++) {
+            Check.same("line " + i, x.log(i, 0) * 100 + x.log(i, 1) * 10 + x.log(i, 2), told[i]);
+        }
+        rests("all RESTS are spent again", x, 0, 0, 0, 0, 0, 0, 0, 0);
+    }
+
     /** LOG: the latest 60. */
     private static void sixtyLines() {
         for (int lines = 0; lines <= 63; lines++) {
@@ -622,6 +667,15 @@ public final class EdgeDeedTest {
             Check.same("REST by seed " + seed, x.man(0, 6), deed == 0 ? 0 : deed == 1 ? 1 : 2);
             Check.same("lines by seed " + seed, x.count(10), deed == 2 ? 1 : 2);
         }
+        LastHome eight = endless("md3;md3;md3;md3;md3;md3;md3;ms1d0;o");
+        long[] chance = {seedOf(2)};
+        Check.same("the DAY", eight.march(1, chance[0]), 1);
+        Check.same("seven PRESS nobody", eight.count(10), 1);
+        rests("seven keep their RESTS", eight, 2, 2, 2, 2, 2, 2, 2, 0);
+        LastHome pressed = endless("md3;md3;md3;md3;md3;md3;md3;ms1d20;o");
+        pressed.march(1, chance[0]);
+        Check.same("seven PRESS the last one", pressed.man(7, 1), 13);
+        Check.same("eight lines, he has no REST", pressed.count(10), 8);
     }
 
     /** By numbers (till the WAR is over); the DAY on which the WAR is over ends so, too. */

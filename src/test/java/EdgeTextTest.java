@@ -1,4 +1,6 @@
 import java.util.function.IntFunction;
+import java.util.function.Supplier;
+import java.util.function.UnaryOperator;
 
 /**
  * The edges of part 1 of the Terms and of promises 1 to 5, 7, 8 and 46. Each check bears the words it holds to.
@@ -35,8 +37,10 @@ public final class EdgeTextTest {
         tapeOf240();
         bytesOfZeroAreLeftOut();
         endOfTape();
+        faultOfTheTapeAlone();
         faultLeavesTape();
         textOfWar();
+        nothingStaysOfAnotherWar();
         textOfLaw();
         lawThatHolds();
         countsAtTheirMost();
@@ -453,6 +457,16 @@ public final class EdgeTextTest {
             law("y:(!(!(!" + last, 8);
             law("y:d=1&(!(!(!" + last, 12);
         }
+        for (char sign : new char[] {'&', '|'}) {
+            law("y:d=1" + sign + "!!!!!!d=1?1", Check.NONE);
+            law("y:d=1" + sign + "!!!!!!!d=1?1", 12);
+            law("y:(d=1)" + sign + "!!!!!!d=1?1", Check.NONE);
+            law("y:(d=1)" + sign + "!!!!!!!d=1?1", 14);
+            law("y:d=1" + sign + "d=[[[[[[d]]]]]]?1", Check.NONE);
+            law("y:d=1" + sign + "d=[[[[[[[d]]]]]]]?1", 14);
+            law("y:(d=1" + sign + "!!!!!d=1)?1", Check.NONE);
+            law("y:(d=1" + sign + "!!!!!!d=1)?1", 12);
+        }
         law("y:(!(!(![", 8);
         law("y:((((([d]=1)))))?1", Check.NONE);
         law("y:(((((([d", 8);
@@ -584,6 +598,10 @@ public final class EdgeTextTest {
         home("y:d<8?1", true);
         home("y:d>7?1", false);
         home("y:d>6?1", true);
+        home("y:d=6?1+1", false);
+        home("y:d=6?1+1;y:0", false);
+        home("y:d=6?[1+2]*3;y:d=8?4+5*6;y:d=7?0-1", false);
+        home("y:d=6&n=9|b=0?[1+2]*3-1;y:!d=7?4+5;y:1+1", true);
         home("y:d=7?d-6", true);
         home("y:d=7?d-7", false);
     }
@@ -697,6 +715,37 @@ public final class EdgeTextTest {
         Check.same("end 241 of 240", z.end(241), false);
         Check.same("end 0 of 240", z.end(0), true);
         Check.same("what is gone is gone", z.end(240), false);
+        LastHome blank = Check.fed(new LastHome(), "m;ms1;   ");
+        blank.end(6);
+        Check.same("blanks behind the end are no blanks", blank.fault(0), 6);
+        Check.fed(blank, "y:   ");
+        blank.end(2);
+        Check.same("nor in a LAW", blank.fault(1), 2);
+        Check.fed(blank, "md12;ms1");
+        blank.end(3);
+        blank.feed(0x3b6d7331, 0, 0, 0, 0);
+        Check.same("nor digits", blank.text(0), 2);
+        Check.same("STEPS", blank.man(0, 1), 1);
+    }
+
+    /** The FAULT of the TAPE, whatever was told, or found wrong, ahead of it. */
+    private static void faultOfTheTapeAlone() {
+        String[] texts = {
+            "m;ms1", "m;m", "ms1;ms1", "ms1", "m;ms1;o;o", "m;ms1;o", "m;ms1;w", "m;ms1;w;w", "ok1;ok2;ok3;ok4;ok5;ok6;o", "m;ms1;ok3x9",
+            "m;m;m;m;m;m;m;m;m", "mq", "md2d", "", "y:1", "y:(d=1)?1", "y:((((((d=1", "y:[[[[[[[", "y:d=1", "y:d+", "y:12345", "y:[[[[[[d]]]]]]"
+        };
+        for (String first : texts) {
+            for (String second : texts) {
+                LastHome x = Check.fed(new LastHome(), first);
+                x.fault(0);
+                x.fault(1);
+                Check.fed(x, second);
+                for (int sort = 0; sort < 2; sort++) {
+                    Check.same("fault of '" + second + "' behind '" + first + "'", x.fault(sort), fault(sort, second));
+                }
+                Check.same("WAR '" + second + "' behind '" + first + "'", x.text(0) > 0, fault(0, second) == Check.NONE);
+            }
+        }
     }
 
     /** The FAULT as a WAR (0), a LAW (1). NONE: none. -2: no such sort. */
@@ -757,6 +806,53 @@ public final class EdgeTextTest {
         z.letter(3, 1);
         Check.war(z, "m;ms1");
         Check.same("LETTERS from ahead of the first WAR are gone, too", z.count(9), 0);
+    }
+
+    /** All that was of another one is gone: no answer is another one behind a larger WAR. */
+    private static void nothingStaysOfAnotherWar() {
+        String[] wars = {
+            "md3v2;ms1d0;o", "md9;ms1d9;ok9x2", "ms1d3v5;md8v5;ok8x3;wp1", "md0;ms1d20v3;md6n9i5;ok6x1;ok20x9", "md2;md1;ms1d1;ok1x1;wg1"
+        };
+        for (String war : wars) {
+            compareBehind(war, "m;m;ms1;m;m;m;ms1d0;md0;wg1");
+            compareBehind(war, "md20v5b1n9i8;md20;md20v2;md20v3;ms1d20v5;ms1d20;ms1d20v2;ms1d20v3;ok20x9;ok9x9;ok8x9;ok6x9;ok3x9;ok1x9;wp9g1");
+        }
+    }
+
+    private static void compareBehind(String war, String former) {
+        Supplier<LastHome> alone = () -> Check.war(withLaws(), war);
+        Supplier<LastHome> behind = () -> {
+            LastHome x = Check.war(withLaws(), former);
+            x.duel(0, 4, 0);
+            x.champion(0);
+            x.escorts(0, 1);
+            x.letter(3, 2);
+            x.sure(3);
+            x.march(5, 3L);
+            x.image();
+            x.stay(0);
+            return Check.war(x, war);
+        };
+        Check.same("'" + war + "' behind '" + former + "'", Trace.of(behind).equals(Trace.of(alone)), true);
+        Check.same("asked, '" + war + "' behind '" + former + "'", Trace.asked(behind).equals(Trace.asked(alone)), true);
+        for (int seed = 0; seed < 20; seed++) {
+            int chance = seed;
+            UnaryOperator<LastHome> marched = x -> {
+                x.march(3, chance);
+                x.evening();
+                return x;
+            };
+            String due = Trace.of(() -> marched.apply(alone.get()));
+            Check.same("'" + war + "' goes on as if there had been no other", Trace.of(() -> marched.apply(behind.get())).equals(due), true);
+        }
+    }
+
+    private static LastHome withLaws() {
+        LastHome x = new LastHome();
+        Check.law(x, "y:d<2?1");
+        Check.law(x, "y:0");
+        x.law(1);
+        return x;
     }
 
     /** A LAW: its number. NONE: there are four LAWS. */

@@ -379,6 +379,12 @@ public final class EdgeWayTest {
         LastHome few = Check.war("md20;ms1d3v5;ms1d3v5;ms1d3v5;ms1d3v3;o");
         Check.same("one STEP is left", few.forced(0), 2);
         Check.same("not his own SIDE, though ALLIED", Check.war("md9;md3v5;ms1;o;wg1").forced(0), 9);
+        LastHome eight = Check.war("md3v4;ms1d20;ms1d20;ms1d7;md3v1;md3v1;md3v1;md3v3;o");
+        int[] due = {3, 2, 2, 1, 3, 3, 3, 3};
+        for (int m = 0; m < 8; m++) {
+            Check.same("of eight, MAN " + m, eight.forced(m), due[m]);
+        }
+        Check.same("by MAN 0 alone", Check.war("md3v4;ms1d9;o").forced(1), 2);
         Check.same("of SIDE 1, too: 1 + 5 twice", Check.war("ms1d9;md3v5;ms1d3v5;o").forced(0), 2);
     }
 

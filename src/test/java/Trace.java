@@ -1,3 +1,4 @@
+import java.util.Arrays;
 import java.util.function.Supplier;
 import java.util.function.ToIntFunction;
 
@@ -51,7 +52,7 @@ final class Trace {
         for (int number : near) {
             all[count++] = number;
         }
-        return java.util.Arrays.copyOf(all, count);
+        return Arrays.copyOf(all, count);
     }
 
     static String of(Supplier<LastHome> made) {
@@ -71,6 +72,41 @@ final class Trace {
             all.append("\ntext ").append(told.text(sort));
             tellNow(all, told);
         }
+        return all.toString();
+    }
+
+    /** What all calls that ask answer, for all MEN, SIDES and LAWS and the numbers next to these. */
+    static String asked(Supplier<LastHome> made) {
+        StringBuilder all = new StringBuilder();
+        int men = made.get().count(0);
+        for (int m = -1; m <= men; m++) {
+            LastHome x = made.get();
+            all.append("\nof ").append(m).append(':');
+            for (int o = -1; o <= men; o++) {
+                all.append(' ').append(x.duel(m, o, 0)).append(',').append(x.duel(m, o, 1)).append(',').append(x.duel(m, o, 2));
+                all.append(',').append(x.treaty(m, o)).append(',').append(x.meeting(m, o));
+            }
+            all.append(" ways ").append(x.away(m)).append(' ').append(x.forced(m)).append(' ').append(x.next(m));
+            all.append(' ').append(x.ahead(m)).append(' ').append(x.reads(m));
+            for (int n = -1; n <= 41; n += 3) {
+                all.append(' ').append(x.odds(m, n)).append(',').append(x.gets(m, n));
+            }
+        }
+        LastHome x = made.get();
+        for (int side = -1; side <= 2; side++) {
+            all.append("\nside ").append(x.champion(side)).append(' ').append(x.victors(side)).append(' ').append(x.behind(side));
+            all.append(' ').append(x.escorts(side, 0)).append(' ').append(x.escorts(side, 1));
+            all.append(' ').append(x.soonest(side)).append(' ').append(x.pony(side)).append(' ').append(x.hurry(side, 7));
+        }
+        for (int l = -1; l <= 4; l++) {
+            all.append(" loophole ").append(x.loophole(l));
+        }
+        all.append("\nall ").append(x.closed()).append(' ').append(x.last()).append(' ').append(x.even());
+        all.append(' ').append(x.weary()).append(' ').append(x.won());
+        for (int i = -2; i <= 8; i++) {
+            all.append(" resting ").append(x.resting(i));
+        }
+        tellLetters(all, x);
         return all.toString();
     }
 
