@@ -732,7 +732,8 @@ public final class EdgeTextTest {
     private static void faultOfTheTapeAlone() {
         String[] texts = {
             "m;ms1", "m;m", "ms1;ms1", "ms1", "m;ms1;o;o", "m;ms1;o", "m;ms1;w", "m;ms1;w;w", "ok1;ok2;ok3;ok4;ok5;ok6;o", "m;ms1;ok3x9",
-            "m;m;m;m;m;m;m;m;m", "mq", "md2d", "", "y:1", "y:(d=1)?1", "y:((((((d=1", "y:[[[[[[[", "y:d=1", "y:d+", "y:12345", "y:[[[[[[d]]]]]]"
+            "m;m;m;m;m;m;m;m;m", "mq", "md2d", "",
+            "y:1", "y:(d=1)?1", "y:((((((d=1", "y:[[[[[[[", "y:d=1", "y:d+", "y:12345", "y:[[[[[[d]]]]]]"
         };
         for (String first : texts) {
             for (String second : texts) {
@@ -815,7 +816,8 @@ public final class EdgeTextTest {
         };
         for (String war : wars) {
             compareBehind(war, "m;m;ms1;m;m;m;ms1d0;md0;wg1");
-            compareBehind(war, "md20v5b1n9i8;md20;md20v2;md20v3;ms1d20v5;ms1d20;ms1d20v2;ms1d20v3;ok20x9;ok9x9;ok8x9;ok6x9;ok3x9;ok1x9;wp9g1");
+            compareBehind(war, "md20v5b1n9i8;md20;md20v2;md20v3;ms1d20v5;ms1d20;ms1d20v2;ms1d20v3"
+                + ";ok20x9;ok9x9;ok8x9;ok6x9;ok3x9;ok1x9;wp9g1");
         }
     }
 
@@ -843,7 +845,8 @@ public final class EdgeTextTest {
                 return x;
             };
             String due = Trace.of(() -> marched.apply(alone.get()));
-            Check.same("'" + war + "' goes on as if there had been no other", Trace.of(() -> marched.apply(behind.get())).equals(due), true);
+            String got = Trace.of(() -> marched.apply(behind.get()));
+            Check.same("'" + war + "' goes on as if there had been no other", got.equals(due), true);
         }
     }
 
