@@ -86,7 +86,12 @@ public final class LastHome {
         if (sort == 0) {
             return beginWar();
         }
-        return sort == 1 ? addLaw() : NONE;
+        if (sort != 1 || laws.count >= Laws.MOST || lawText.read() != NONE) {
+            return NONE;
+        }
+        laws.add(lawText);
+        tape.length = 0;
+        return laws.count - 1;
     }
 
     private int beginWar() {
@@ -101,15 +106,6 @@ public final class LastHome {
         letters.count = 0;
         tape.length = 0;
         return war.men;
-    }
-
-    private int addLaw() {
-        if (laws.count >= Laws.MOST || lawText.read() != NONE) {
-            return NONE;
-        }
-        laws.add(lawText);
-        tape.length = 0;
-        return laws.count - 1;
     }
 
     // ---- what is so now
@@ -761,8 +757,8 @@ public final class LastHome {
         }
 
         boolean digitAt(int i) {
-            int sign = at(i);
-            return sign >= '0' && sign <= '9';
+            boolean isThere = i >= 0 && i < length && i < bytes.length;
+            return isThere && bytes[i] >= '0' && bytes[i] <= '9';
         }
     }
 
